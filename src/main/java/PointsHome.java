@@ -589,7 +589,8 @@ public final class PointsHome {
         private final int[] brideOf = new int[MOST_BODIES];
         final boolean[] unscored = new boolean[MOST_BODIES];
         final boolean[] ill = new boolean[MOST_BODIES];
-        private final int[] needs = new int[MOST_BODIES * CRAFTS];
+        // What a guard asks for, four bits a craft: few bodies are guards.
+        private final long[] needs = new long[MOST_BODIES];
         private final int[] askedFor = new int[MOST_PLACES * CRAFTS];
         private final int[] present = new int[MOST_PLACES * CRAFTS];
         private final int[] trail = new int[TRACE_KEPT];
@@ -685,8 +686,9 @@ public final class PointsHome {
             if (!isUnder(guard, GUARD) || !within(craftTold, 0, 9) || !within(n, 0, 9)) {
                 return BAD;
             }
-            int was = needs[guard * CRAFTS + craftTold];
-            needs[guard * CRAFTS + craftTold] = n;
+            int shift = 4 * craftTold;
+            int was = (int) (needs[guard] >> shift & 15L);
+            needs[guard] += (long) (n - was) << shift;
             if (places.isPlace(at[guard])) {
                 askedFor[at[guard] * CRAFTS + craftTold] += n - was;
             }
@@ -1477,8 +1479,7 @@ public final class PointsHome {
         int many;
         private final int[] made = new int[MOST_RULES];
         private final int[] from = new int[MOST_RULES];
-        private final int[] length = new int[MOST_RULES];
-        private final int[] steps = new int[MOST_RULES * TAPE_BYTES];
+        private final int[][] steps = new int[MOST_RULES][];
         private final int[] names = new int[NAMES];
         private final int[] stack = new int[STACK];
         private int height;
@@ -1500,13 +1501,12 @@ public final class PointsHome {
         }
 
         int add(int fromDay, Tape tape) {
-            if (many >= MOST_RULES || tape.stepsMany > TAPE_BYTES) {
+            if (many >= MOST_RULES) {
                 return FULL;
             }
             made[many] = places.today;
             from[many] = fromDay;
-            length[many] = tape.stepsMany;
-            System.arraycopy(tape.steps, 0, steps, many * TAPE_BYTES, tape.stepsMany);
+            steps[many] = Arrays.copyOf(tape.steps, Math.max(0, tape.stepsMany));
             many++;
             return many - 1;
         }
@@ -1547,12 +1547,12 @@ public final class PointsHome {
             portByRule = -1;
             height = 0;
             ruledBy = isRule(rule) ? rule : -1;
-            if (ruledBy < 0) {
+            int[] row = ruledBy >= 0 ? steps[ruledBy] : null;
+            if (row == null) {
                 return;
             }
-            int start = rule * TAPE_BYTES;
-            for (int i = start; i < start + length[rule] && i < steps.length; i++) {
-                take(steps[i] & 255, steps[i] >> 8);
+            for (int i = 0; i < row.length; i++) {
+                take(row[i] & 255, row[i] >> 8);
             }
             if (!places.isPort(portByRule)) {
                 portByRule = -1;
