@@ -604,7 +604,7 @@ public final class PointsHome {
         }
 
         boolean isMan(int body) {
-            return isBody(body) && state[body] >= 0;
+            return body >= 0 && body < many && state[body] >= 0;
         }
 
         boolean isUnder(int body, int k) {

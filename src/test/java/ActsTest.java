@@ -94,6 +94,13 @@ public final class ActsTest {
         DUE.promise(49);
         x.unit(5, -1);
         DUE.is("one man less", x.act(1, 0, 100), 101);
+        // The first body of all may come to a unit later.
+        PointsHome y = new PointsHome();
+        y.place(0, 9);
+        y.man(-1, 0, 20, 0);
+        y.body(4);
+        y.unit(0, 1);
+        DUE.is("man 0 counts", y.act(1, 0, 100), 101);
     }
 
     private static void trace() {
@@ -157,6 +164,9 @@ public final class ActsTest {
         DUE.is("refused ones change nothing", x.element(2, 3), 9);
         x.row(2, 2, 4);
         DUE.is("a new row is 0", x.element(2, 3), 0);
+        x.put(2, 0, 9);
+        x.row(2, 2, 4);
+        DUE.is("from its first on", x.element(2, 0), 0);
     }
 
     private static void put() {

@@ -270,6 +270,7 @@ public final class BodiesTest {
         DUE.is("still", x.ofBody(1, 4), 3);
         x.days(1);
         DUE.is("well", x.ofBody(1, 4), 0);
+        DUE.is("no till", x.ofBody(1, 6), -1);
         DUE.is("sick(1, 1)", x.sick(1, 1), 1);
         x.days(1);
         DUE.is("well", x.ofBody(1, 4), 0);

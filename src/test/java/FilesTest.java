@@ -47,6 +47,13 @@ public final class FilesTest {
         DUE.is("wounds of 1", x.known(1, 1, 3), 298);
         x.lost(0, 6);
         DUE.is("months of the dead", x.known(0, 0, 3), 66);
+        // All entries of the last man that can be.
+        PointsHome y = camp(200);
+        for (int i = 1; i <= 600; i++) {
+            DUE.is("entry", y.entry(199, i == 1 ? 0 : 4, -30, 0), i);
+        }
+        DUE.is("battles of 199", y.known(199, 4, 0), 599);
+        DUE.is("months of 199", y.known(199, 0, 0), 1);
     }
 
     private static void prove() {
@@ -146,6 +153,17 @@ public final class FilesTest {
         DUE.is("doubles(1): then the greater", x.doubles(1), 2);
         x.prove(2);
         DUE.is("proved ones count too", x.doubles(0), 6);
+        PointsHome y = camp(2);
+        y.entry(1, 1, 0, 8);
+        y.entry(0, 1, 0, 8);
+        DUE.is("of entries 0 and 1", y.doubles(0), 1);
+        DUE.is("doubles(1)", y.doubles(1), 0);
+        DUE.is("doubles(2)", y.doubles(2), 1);
+        PointsHome z = camp(2);
+        while (z.count(3) < 600) {
+            z.entry(0, 1, 0, 8);
+        }
+        DUE.is("none of 600", z.doubles(1), -2);
     }
 
     private static void put(PointsHome x, int shelf, int sort, int... v) {
@@ -231,6 +249,15 @@ public final class FilesTest {
         DUE.is("months of 7", x.known(7, 0, 60), 68);
         DUE.is("files(7, ..) by 66", x.files(7, 0, 0, 1), 1);
         DUE.is("scored", x.ofBody(7, 7), 0);
+        // The first body of all may come to a unit later.
+        PointsHome y = camp(1);
+        y.body(4);
+        y.unit(0, 1);
+        y.man(1, 0, 20, 0);
+        y.entry(0, 0, -90, 0);
+        put(y, 0, 0, 0, -1, 1);
+        y.files(2, 0, 0, 1);
+        DUE.is("by man 0", y.known(2, 0, 0), 3);
         // Each three sees those ahead of it.
         x.man(-1, 0, 20, 0);
         put(x, 0, 0, 0, 30, 1, 1, -1, 2);

@@ -251,6 +251,8 @@ public final class PlansTest {
         DUE.is("turn(1, 0)", x.turn(1, 0), 1);
         DUE.is("turn(1, 7): port 0 again", x.turn(1, 7), -1);
         DUE.is("turn(1, 3999)", x.turn(1, 3999), 2);
+        DUE.is("turn(1, 3000): port 3 again", x.turn(1, 3000), -1);
+        DUE.is("turn(2, 1005)", x.turn(2, 1005), -1);
         int[][] bad = {{0, 4}, {0, -1}, {1, 4005}, {1, 5005}, {1, -1}, {1, -1000}, {2, 0}, {-1, 0}, {1, Integer.MAX_VALUE}, {1, Integer.MIN_VALUE}};
         for (int[] b : bad) {
             DUE.is("turn(" + b[0] + ", " + b[1] + ")", x.turn(b[0], b[1]), -1);
@@ -335,6 +337,15 @@ public final class PlansTest {
         DUE.is("not by the first port alone", plan(z, 9, 2, 10, 1008), 18);
         row(z, 1, 0, 1);
         DUE.is("bounds", plan(z, 1, 2, 10, 1008), 0);
+        // Three ships, three voyages each.
+        PointsHome w = harbours();
+        w.ship(0, 1, 2);
+        w.ship(0, 2, 3);
+        w.ship(0, 4, 4);
+        DUE.is("nine voyages", plan(w, 200, 3, 500, 1500, 2500), 21);
+        row(w, 0, 0, 0, 0, 0, 0, 0, 0, 0);
+        DUE.is("of three ports", plan(w, 200, 3, 7, 2007, 3007), 21);
+        row(w, 0, 0, 0, 1, 1, 2, 1, 2, 2);
     }
 
     private static void voyage() {
@@ -523,6 +534,10 @@ public final class PlansTest {
         DUE.is("by rows 0 and 1, week 2", x.line(2, 2, 1), 84);
         DUE.is("by rows 0 and 1, within 2, week 0", x.line(0, 2, 2), 84);
         DUE.is("by rows 0 to 2", x.line(7, 3, 1), 100);
+        x.berths(2, 0, 50);
+        x.berths(3, 0, 4);
+        DUE.is("by rows 0 to 2 now", x.line(0, 3, 1), 92);
+        DUE.is("by all four", x.line(0, 4, 1), 96);
         // Many of one score come together or not at all, and those above them wait for nobody.
         PointsHome y = new PointsHome();
         y.have(99, 3);

@@ -87,6 +87,10 @@ public final class RulesTest {
         y.man(-1, 0, 20, 0);
         DUE.is("240 bytes", Due.rule(y, s.toString(), 0), 0);
         DUE.is("its low", y.judged(0, 0, 0, 1), 118);
+        DUE.is("240 signs", Due.rule(y, times(";", 240), 0), -100);
+        DUE.is("forty lines and no more", Due.rule(y, "low 1;" + times("low 1;", 39), 0), -100 - 240);
+        DUE.is("a fault in the last byte", Due.rule(y, s.substring(0, 239) + "+", 0), -100 - 240);
+        DUE.is("a fault in the last byte", Due.rule(y, s.substring(0, 239) + "(", 0), -100 - 239);
     }
 
     private static void faults() {
@@ -238,6 +242,7 @@ public final class RulesTest {
         DUE.is("far from any place", verdict("port 9999", 3), -1);
         DUE.is("the first port line that holds", verdict("port 0 if age<33;port 2 if age=33;port 0", 3), 2);
         DUE.is("the first one counts, port or not", verdict("port 1;port 2", 3), -1);
+        DUE.is("the first one counts, also if it is 0", verdict("port 0;port 2", 3), 0);
         DUE.is("none holds", verdict("port 0 if age<33;port 2 if age>33", 3), -1);
         DUE.is("out: score is low", verdict("score 5;low 5", 4), 1);
         DUE.is("out: score is above", verdict("score 6;low 5", 4), 1);
@@ -321,6 +326,28 @@ public final class RulesTest {
         DUE.is("home", y.ofBody(0, 4), 4);
         DUE.is("home: score", y.judged(0, 3, 3, 0), 1);
         DUE.is("gone: score", gone(), 1);
+        // Dead on a train: he left when the train did; dead aboard: when he was loaded.
+        PointsHome z = new PointsHome();
+        z.place(11, 9);
+        z.place(11, 9);
+        z.rail(0, 1, 9, 9);
+        Due.rule(z, "score 1+bride;low 1", 0);
+        z.man(-1, 0, 20, 0);
+        z.man(-1, 0, 20, 0);
+        z.bride(1);
+        z.ship(0, 1, 2);
+        z.days(2);
+        z.train(0, 1);
+        z.load(1, 0);
+        z.days(1);
+        Due.rule(z, "score 5;low 1", 3);
+        z.days(1);
+        z.lost(0, 6);
+        z.lost(1, 6);
+        DUE.is("dead on a train", z.judged(0, 9, 9, 0), 1);
+        DUE.is("dead aboard", z.judged(1, 9, 9, 0), 2);
+        DUE.is("known there then", z.judged(1, 9, 1, 5), 0);
+        DUE.is("by the office", z.judged(1, 9, 9, 10), 5);
     }
 
     private static int gone() {

@@ -204,6 +204,8 @@ public final class ShipsTest {
         DUE.is("sail", x.sail(0, 1), 5);
         DUE.is("at sea it belongs to the port of its return", x.why(well, 0), 1);
         DUE.is("who is there", x.why(elsewhere, 0), 7);
+        int byOther = x.man(-1, 0, 42, 1);
+        DUE.is("another port, which is 0", x.why(byOther, 1), 5);
         // By what is known at the port today: rule 1 is made on 2, and is at port 1 on 4.
         Due.rule(x, "low 100", 2);
         DUE.is("port 1 on 2", x.why(elsewhere, 1), 0);
@@ -251,6 +253,9 @@ public final class ShipsTest {
         y.man(-1, 0, 50, 0);
         y.man(-1, 0, 40, 0);
         DUE.is("the greatest below 0", y.next(0), 1);
+        y.lost(1, 6);
+        DUE.is("man 0", y.next(0), 0);
+        DUE.is("man 0 is loaded", y.fill(0), 1);
     }
 
     private static void load() {
