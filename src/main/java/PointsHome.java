@@ -162,7 +162,7 @@ public final class PointsHome {
     }
 
     public int files(int man, int shelf, int i, int n) {
-        if (!bodies.isMan(man) || !shelves.isShelf(shelf) || i < 0 || !within(n, 1, 20)) {
+        if (!bodies.isMan(man) || !shelves.isShelf(shelf) || !within(n, 1, 20)) {
             return BAD;
         }
         int holds = shelves.holds[shelf];
@@ -1131,7 +1131,8 @@ public final class PointsHome {
 
         int readRow(int man, Shelves shelves, int shelf, int i, int n) {
             for (int t = 0; t < n; t++) {
-                if (shelves.lengthOf(shelf) - 3 * t - 3 < i) {
+                // Ahead of its first element the row is missing as it is behind its last.
+                if (i < 0 || shelves.lengthOf(shelf) - 3 * t - 3 < i) {
                     return stopUnscored(man, t);
                 }
                 int spot = i + 3 * t;

@@ -190,7 +190,7 @@ public final class FilesTest {
         DUE.is("of shorts", x.files(0, 1, 0, 1), 1);
         DUE.is("children", x.known(0, 3, 0), 2);
         DUE.is("when it was so: -600", x.known(0, 13, 0), 2);
-        int[][] bad = {{1, 0, 0, 1}, {2, 0, 0, 1}, {-1, 0, 0, 1}, {0, 8, 0, 1}, {0, -1, 0, 1}, {0, 0, 0, 0}, {0, 0, 0, 21}, {0, 0, -1, 1}};
+        int[][] bad = {{1, 0, 0, 1}, {2, 0, 0, 1}, {-1, 0, 0, 1}, {0, 8, 0, 1}, {0, -1, 0, 1}, {0, 0, 0, 0}, {0, 0, 0, 21}, {0, 0, -1, 0}};
         for (int[] b : bad) {
             DUE.is("files(" + b[0] + ", " + b[1] + ", " + b[2] + ", " + b[3] + ")", x.files(b[0], b[1], b[2], b[3]), -1);
         }
@@ -266,6 +266,25 @@ public final class FilesTest {
         DUE.is("wounds of 8", x.known(8, 1, 60), 2);
     }
 
+    /** No range is told of the place: ahead of its first element, too, the row is missing. */
+    private static void placesBelowZero(PointsHome x) {
+        int many = x.count(3);
+        for (int i : new int[] {-1, -2, -3, Integer.MIN_VALUE}) {
+            for (int shelf : new int[] {0, 7}) {
+                x.files(1, 0, 0, 1);
+                many++;
+                DUE.is("scored", x.ofBody(1, 7), 0);
+                DUE.is("shelf " + shelf + " from " + i + " on", x.files(1, shelf, i, 2), 0);
+                DUE.is("not scored", x.ofBody(1, 7), 1);
+                DUE.is("entries", x.count(3), many);
+            }
+        }
+        x.files(1, 0, 0, 1);
+        x.row(5, 2, 9);
+        DUE.is("a row of ints from -1 on", x.files(1, 5, -1, 1), -12);
+        DUE.is("scored still", x.ofBody(1, 7), 0);
+    }
+
     private static void filesThatEnd() {
         DUE.promise(19);
         PointsHome x = camp(3);
@@ -281,6 +300,8 @@ public final class FilesTest {
         DUE.is("not scored", x.ofBody(0, 7), 1);
         DUE.is("starts far behind", x.files(1, 0, Integer.MAX_VALUE, 20), 0);
         DUE.is("not scored", x.ofBody(1, 7), 1);
+        placesBelowZero(x);
+        DUE.is("missing again", x.files(1, 7, 0, 1), 0);
         int[][] wrong = {{5, 0, 1}, {-2, 0, 1}, {0, 67, 1}, {0, -2, 1}, {0, 0, 10}, {0, 0, -2}};
         int many = x.count(3);
         for (int[] w : wrong) {

@@ -296,14 +296,14 @@ final class Model {
     }
 
     int files(int man, int shelf, int i, int n) {
-        if (!isMan(man) || !in(shelf, 0, 7) || i < 0 || !in(n, 1, 20)) return BAD;
+        if (!isMan(man) || !in(shelf, 0, 7) || !in(n, 1, 20)) return BAD;
         Object held = shelves[shelf];
         if (held != null && (!(held instanceof Row r) || r.sort > 1)) return -12;
         long[] row = held == null ? new long[0] : ((Row) held).v;
         Body b = bodies.get(man);
         for (int t = 0; t < n; t++) {
             long at = i + 3L * t;
-            if (at + 2 >= row.length) { b.notScored = true; return t; }
+            if (at < 0 || at + 2 >= row.length) { b.notScored = true; return t; }
             long sort = row[(int) at], month = row[(int) at + 1], many = row[(int) at + 2];
             if (sort == blank) sort = 0;
             if (month == blank) month = middle(man);
