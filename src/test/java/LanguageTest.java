@@ -1,3 +1,4 @@
+import java.lang.reflect.Array;
 import java.lang.reflect.Constructor;
 import java.lang.reflect.Field;
 import java.lang.reflect.Method;
@@ -6,7 +7,9 @@ import java.nio.file.Files;
 import java.nio.file.Path;
 import java.util.ArrayList;
 import java.util.HashSet;
+import java.util.IdentityHashMap;
 import java.util.List;
+import java.util.Map;
 import java.util.Set;
 import java.util.regex.Matcher;
 import java.util.regex.Pattern;
@@ -29,6 +32,7 @@ public final class LanguageTest {
         words(code);
         library(code);
         sizes(text);
+        room();
         System.out.println("LanguageTest: " + wrong + " faults");
         if (wrong > 0) {
             System.exit(1);
@@ -152,6 +156,37 @@ public final class LanguageTest {
                 fault("12", m.group().trim());
             }
         }
+    }
+
+    /** All calls live in one room of 600,000 objects and 7.3 million fields and elements: a new object takes few of them. */
+    private static void room() throws IllegalAccessException {
+        Map<Object, Boolean> seen = new IdentityHashMap<>();
+        int elements = elementsOf(new PointsHome(), seen);
+        if (seen.size() > 200 || elements > 14000) {
+            fault("12", "a new object takes " + seen.size() + " objects, " + elements + " fields and elements");
+        }
+    }
+
+    private static int elementsOf(Object made, Map<Object, Boolean> seen) throws IllegalAccessException {
+        if (made == null || seen.put(made, true) != null) {
+            return 0;
+        }
+        Class<?> c = made.getClass();
+        int n = 0;
+        if (c.isArray()) {
+            n = Array.getLength(made);
+            for (int i = 0; !c.getComponentType().isPrimitive() && i < Array.getLength(made); i++) {
+                n += elementsOf(Array.get(made, i), seen);
+            }
+            return n;
+        }
+        for (Field f : c.getDeclaredFields()) {
+            if (!Modifier.isStatic(f.getModifiers())) {
+                f.setAccessible(true);
+                n += 1 + (f.getType().isPrimitive() ? 0 : elementsOf(f.get(made), seen));
+            }
+        }
+        return n;
     }
 
     private static void sizes(String text) {
